@@ -49,6 +49,7 @@ public final class Quillroom {
     private final Answer answer;
     private final Answer proof;
     private final long[] readers;
+    private final int[] passageCounts;
     private Question spare;
     private long current;
     private int filter;
@@ -64,12 +65,13 @@ public final class Quillroom {
         fresh = new Index(lexicon, aliases);
         log = new Log();
         shelf = new Shelf();
-        parser = new Parser(lexicon);
+        parser = new Parser();
         finder = new Finder(lexicon, library);
         answer = new Answer();
         proof = new Answer();
         readers = new long[MOST_READERS];
         Arrays.fill(readers, CLOSED);
+        passageCounts = new int[MOST_WORDS];
         spare = new Question();
         current = 0L;
         filter = NONE;
@@ -237,6 +239,7 @@ public final class Quillroom {
         if (parser.read(draft, spare) != NONE) {
             throw new UnsupportedOperationException("the text is no question");
         }
+        spare.resolve(lexicon);
         // The question of the answer ahead becomes the spare one, so that no new one is made.
         Question before = answer.question();
         answer.begin(spare, there, order, filter);
@@ -325,7 +328,7 @@ public final class Quillroom {
         if (index.wordsOf(document) == 0) {
             throw new UnsupportedOperationException("the document has no words");
         }
-        return wantedFrom(document, bestPassage(document));
+        return cell(passageCounts, bestPassage(document));
     }
 
     public int suggest() throws UnsupportedOperationException, NoSuchElementException {
@@ -391,20 +394,25 @@ public final class Quillroom {
     }
 
     public boolean isSound() {
-        return shelf.holdsOnceEach(current) && (!answer.isThere() || isFoundAnew());
+        if (!shelf.holdsOnceEach(current)) {
+            return false;
+        }
+        if (!answer.isThere()) {
+            return true;
+        }
+        readAnew(answer.view());
+        proof.begin(answer.question(), answer.view(), answer.order(), answer.filter());
+        proof.seek(finder, fresh, library);
+        return proof.isSameAs(answer);
     }
 
-    private boolean isFoundAnew() {
+    private void readAnew(long members) {
         fresh.clear();
-        long there = answer.view();
         for (int document = 0; document < library.size(); document++) {
-            if (isIn(there, document)) {
+            if (isIn(members, document)) {
                 fresh.enter(document, library.text(document), library.aliasesKnown(document));
             }
         }
-        proof.begin(answer.question(), there, answer.order(), answer.filter());
-        proof.seek(finder, fresh, library);
-        return proof.isSameAs(answer);
     }
 
     private int freeReader() {
@@ -434,28 +442,31 @@ public final class Quillroom {
     }
 
     private int bestPassage(int document) {
+        countPassages(document);
         int best = 0;
-        int most = wantedFrom(document, 0);
         for (int place = 1; place < index.wordsOf(document); place++) {
-            int count = wantedFrom(document, place);
-            if (count > most) {
+            if (cell(passageCounts, place) > cell(passageCounts, best)) {
                 best = place;
-                most = count;
             }
         }
         return best;
     }
 
-    private int wantedFrom(int document, int place) {
-        Question question = answer.question();
-        int count = 0;
-        for (int i = 0; i < question.wantedSize(); i++) {
-            int found = index.placeFrom(document, place, question.wantedAt(i));
-            if (found != NONE && found < place + PASSAGE_PLACES) {
-                count++;
+    /** Counts for each place how many stems of the question the passage from it on has. */
+    private void countPassages(int document) {
+        Arrays.fill(passageCounts, 0);
+        for (int i = 0; i < answer.question().wantedSize(); i++) {
+            long places = index.placesOf(document, answer.question().wantedAt(i));
+            long begins = 0L;
+            for (int ahead = 0; ahead < PASSAGE_PLACES; ahead++) {
+                begins = begins | places >>> ahead;
+            }
+            for (int place = 0; place < MOST_WORDS; place++) {
+                if ((begins >>> place & 1L) != 0L) {
+                    setCell(passageCounts, place, cell(passageCounts, place) + 1);
+                }
             }
         }
-        return count;
     }
 
     private int nearestStem(int end) {
@@ -607,17 +618,13 @@ public final class Quillroom {
         /** A stem is always how its word begins. */
         int endOfStem(int from, int end) {
             int letters = end - from;
-            if (letters >= 6 && endsWith(end, "ing")) {
+            if (letters >= 6 && hasAt(end - 3, "ing")) {
                 return end - 3;
             }
-            if (letters >= 5 && endsWith(end, "ed")) {
+            if (letters >= 5 && hasAt(end - 2, "ed")) {
                 return end - 2;
             }
-            return letters >= 4 && endsWith(end, "s") ? end - 1 : end;
-        }
-
-        private boolean endsWith(int end, String part) {
-            return hasAt(end - part.length(), part);
+            return letters >= 4 && hasAt(end - 1, "s") ? end - 1 : end;
         }
 
         private boolean hasAt(int from, String part) {
@@ -694,15 +701,16 @@ public final class Quillroom {
         }
 
         int lettersOf(int stem) {
-            return stem >= 0 && stem < count ? cell(ends, stem) - cell(starts, stem) : 0;
+            boolean isKnown = stem >= 0 && stem < starts.length && stem < ends.length;
+            return isKnown ? ends[stem] - starts[stem] : 0;
         }
 
         char letter(int stem, int place) {
-            if (place < 0 || place >= lettersOf(stem)) {
+            if (stem < 0 || stem >= starts.length || stem >= ends.length || place < 0) {
                 return NO_SIGN;
             }
-            int at = cell(starts, stem) + place;
-            return at >= 0 && at < letters.length ? letters[at] : NO_SIGN;
+            int at = starts[stem] + place;
+            return at >= 0 && at < letters.length && at < ends[stem] ? letters[at] : NO_SIGN;
         }
 
         int find(Text text, int from, int end) {
@@ -822,8 +830,8 @@ public final class Quillroom {
             if (head == NONE || other == NONE) {
                 return false;
             }
-            for (int i = 0; i < known && i < count; i++) {
-                if (headAt(i) == head && otherAt(i) == other) {
+            for (int i = 0; i < known && i < count && i < heads.length && i < others.length; i++) {
+                if (heads[i] == head && others[i] == other) {
                     return true;
                 }
             }
@@ -993,24 +1001,20 @@ public final class Quillroom {
             return sum;
         }
 
-        boolean has(int document, int place, int stem) {
-            if (stem == NONE || document < 0 || document >= rows.length) {
-                return false;
+        /** The places of a document at which a stem stands, as bits: a text has fewer than 64 words. */
+        long placesOf(int document, int stem) {
+            if (stem == NONE || document < 0 || document >= rows.length || document >= words.length
+                    || document >= known.length || rows[document] == null) {
+                return 0L;
             }
             int[] row = rows[document];
-            if (row == null || place < 0 || place >= row.length || place >= wordsOf(document)) {
-                return false;
-            }
-            return row[place] == stem || aliases.areLinked(cell(known, document), row[place], stem);
-        }
-
-        int placeFrom(int document, int from, int stem) {
-            for (int place = from; place < wordsOf(document); place++) {
-                if (has(document, place, stem)) {
-                    return place;
+            long places = 0L;
+            for (int place = 0; place < words[document] && place < row.length; place++) {
+                if (row[place] == stem || aliases.areLinked(known[document], row[place], stem)) {
+                    places = places | 1L << place;
                 }
             }
-            return NONE;
+            return places;
         }
     }
 
@@ -1249,8 +1253,10 @@ public final class Quillroom {
         private final int[] ends;
         private final int[] slops;
         private int size;
-        private final int[] row;
+        private final int[] wordFroms;
+        private final int[] wordEnds;
         private final int[] offsets;
+        private final int[] row;
         private int rowSize;
         private final int[] wanted;
         private int wantedSize;
@@ -1264,8 +1270,10 @@ public final class Quillroom {
             ends = new int[MOST_CLAUSES];
             slops = new int[MOST_CLAUSES];
             size = 0;
-            row = new int[MOST_WORDS];
+            wordFroms = new int[MOST_WORDS];
+            wordEnds = new int[MOST_WORDS];
             offsets = new int[MOST_WORDS];
+            row = new int[MOST_WORDS];
             rowSize = 0;
             wanted = new int[MOST_WORDS];
             wantedSize = 0;
@@ -1300,27 +1308,39 @@ public final class Quillroom {
             setCell(slops, size - 1, slop);
         }
 
-        void addWord(int stem, int offset) {
+        void addWord(int from, int end, int offset) {
             if (rowSize < MOST_WORDS) {
-                setCell(row, rowSize, stem);
+                setCell(wordFroms, rowSize, from);
+                setCell(wordEnds, rowSize, end);
                 setCell(offsets, rowSize, offset);
                 rowSize++;
                 setCell(ends, size - 1, rowSize);
-                want(stem);
             }
         }
 
-        private void want(int stem) {
-            if (stem == NONE || wantedSize >= MOST_WORDS || isUnwanted(size - 1)) {
-                return;
-            }
-            for (int i = 0; i < wantedSize; i++) {
-                if (wantedAt(i) == stem) {
-                    return;
+        /** Finds the stems of the words; one that no document ever had is NONE. */
+        void resolve(Lexicon lexicon) {
+            wantedSize = 0;
+            for (int clause = 0; clause < size; clause++) {
+                boolean isWanted = kindOf(clause) == PHRASE && !isUnwanted(clause);
+                for (int i = fromOf(clause); kindOf(clause) == PHRASE && i < endOf(clause); i++) {
+                    int stem = lexicon.find(text, cell(wordFroms, i), cell(wordEnds, i));
+                    setCell(row, i, stem);
+                    if (isWanted && stem != NONE && !isAmongWanted(stem)) {
+                        setCell(wanted, wantedSize, stem);
+                        wantedSize++;
+                    }
                 }
             }
-            setCell(wanted, wantedSize, stem);
-            wantedSize++;
+        }
+
+        private boolean isAmongWanted(int stem) {
+            for (int i = 0; i < wantedSize; i++) {
+                if (wantedAt(i) == stem) {
+                    return true;
+                }
+            }
+            return false;
         }
 
         private boolean isUnwanted(int clause) {
@@ -1401,12 +1421,6 @@ public final class Quillroom {
      * it has a fault, -1 less the place of the fault.
      */
     private static final class Parser {
-        private final Lexicon lexicon;
-
-        Parser(Lexicon lexicon) {
-            this.lexicon = lexicon;
-        }
-
         /** Tells the place of the fault, or NONE when the text is a question. */
         int read(Text text, Question question) {
             question.start(text);
@@ -1478,7 +1492,7 @@ public final class Quillroom {
 
         private void takeWord(Text text, Question question, int from, int end, int offset) {
             if (!text.isStop(from, end)) {
-                question.addWord(lexicon.find(text, from, text.endOfStem(from, end)), offset);
+                question.addWord(from, text.endOfStem(from, end), offset);
             }
         }
 
@@ -1542,7 +1556,8 @@ public final class Quillroom {
         private final Lexicon lexicon;
         private final Library library;
         private final long[] held;
-        private final float[] worth;
+        private final float[][] worth;
+        private final long[] wordPlaces;
         private long there;
         private int many;
         private float mean;
@@ -1551,21 +1566,40 @@ public final class Quillroom {
             this.lexicon = lexicon;
             this.library = library;
             held = new long[MOST_CLAUSES];
-            worth = new float[MOST_CLAUSES];
+            worth = new float[MOST_CLAUSES][MOST_DOCUMENTS];
+            wordPlaces = new long[MOST_WORDS];
             there = 0L;
             many = 0;
             mean = 0.0f;
         }
 
-        /** From the last clause to the first one, as clauses in brackets stand behind these. */
+        /** From the last clause to the first one, as the clauses in brackets stand behind these. */
         long find(Question question, Index index, long members) {
             there = members;
             many = Long.bitCount(members);
             mean = many > 0 ? (float) index.lengthOfAll(members) / (float) many : 0.0f;
             for (int clause = question.size() - 1; clause >= 0; clause--) {
-                setHeld(clause, holders(question, index, clause));
+                switch (question.kindOf(clause)) {
+                    case PHRASE:
+                        findPhrase(question, index, clause);
+                        break;
+                    case BEGINNING:
+                    case NEAR:
+                        findWidened(question, index, clause);
+                        break;
+                    case RANGE:
+                        findRange(question, clause);
+                        break;
+                    default:
+                        findGroup(question, clause);
+                        break;
+                }
             }
             return heldAt(ROOT);
+        }
+
+        float scoreOf(int document) {
+            return worthAt(ROOT, document);
         }
 
         private long heldAt(int clause) {
@@ -1578,64 +1612,86 @@ public final class Quillroom {
             }
         }
 
-        private float worthAt(int clause) {
-            return clause >= 0 && clause < worth.length ? worth[clause] : 0.0f;
+        private float worthAt(int clause, int document) {
+            if (clause < 0 || clause >= worth.length || worth[clause] == null) {
+                return 0.0f;
+            }
+            float[] row = worth[clause];
+            return document >= 0 && document < row.length ? row[document] : 0.0f;
         }
 
-        private void setWorth(int clause, float score) {
-            if (clause >= 0 && clause < worth.length) {
-                worth[clause] = score;
+        private void setWorth(int clause, int document, float score) {
+            if (clause >= 0 && clause < worth.length && worth[clause] != null) {
+                float[] row = worth[clause];
+                if (document >= 0 && document < row.length) {
+                    row[document] = score;
+                }
             }
         }
 
-        private long holders(Question question, Index index, int clause) {
-            switch (question.kindOf(clause)) {
-                case PHRASE:
-                    return phraseHolders(question, index, clause);
-                case BEGINNING:
-                case NEAR:
-                    return widenedHolders(question, index, clause);
-                case RANGE:
-                    return rangeHolders(question.fromOf(clause), question.endOf(clause));
-                default:
-                    return groupHolders(question, clause);
-            }
-        }
-
-        private long phraseHolders(Question question, Index index, int clause) {
+        private void findPhrase(Question question, Index index, int clause) {
             int from = question.fromOf(clause);
             int end = question.endOf(clause);
             long likely = from < end ? there : 0L;
+            float weight = 0.0f;
             for (int i = from; i < end; i++) {
-                likely = likely & index.homesOf(question.wordAt(i));
+                long homes = index.homesOf(question.wordAt(i)) & there;
+                int having = Long.bitCount(homes);
+                weight = weight + (1.0f + (float) (many - having) / (float) (having + 1));
+                likely = likely & homes;
             }
             long members = 0L;
             for (int document = 0; document < MOST_DOCUMENTS; document++) {
-                if (isIn(likely, document) && timesIn(question, index, clause, document) > 0) {
+                int times = isIn(likely, document) ? timesIn(question, index, clause, document) : 0;
+                if (times > 0) {
                     members = members | only(document);
+                    setWorth(clause, document, scoreFor(weight, times, index.lengthOf(document)));
                 }
             }
-            return members;
+            setHeld(clause, members);
         }
 
-        private static int timesIn(Question question, Index index, int clause, int document) {
-            int stem = question.wordAt(question.fromOf(clause));
+        private float scoreFor(float weight, int times, int length) {
+            if (!(mean > 0.0f)) {
+                return 0.0f;
+            }
+            int highest = Integer.highestOneBit(length);
+            int coarse = length & (highest | highest >> 1 | highest >> 2);
+            float divisor = (float) times + 1.2f * (0.25f + 0.75f * (float) coarse / mean);
+            return divisor > 0.0f ? weight * ((float) times * 2.2f / divisor) : 0.0f;
+        }
+
+        private int timesIn(Question question, Index index, int clause, int document) {
+            int from = question.fromOf(clause);
+            for (int i = from; i < question.endOf(clause); i++) {
+                if (i >= 0 && i < wordPlaces.length) {
+                    wordPlaces[i] = index.placesOf(document, question.wordAt(i));
+                }
+            }
             int times = 0;
-            for (int place = 0; place < index.wordsOf(document); place++) {
-                if (index.has(document, place, stem) && goesOn(question, index, clause, document, place)) {
+            for (int place = 0; place < MOST_WORDS; place++) {
+                if (nextPlace(from, place) == place && goesOn(question, clause, place)) {
                     times++;
                 }
             }
             return times;
         }
 
+        private int nextPlace(int word, int from) {
+            if (word < 0 || word >= wordPlaces.length || from < 0 || from >= MOST_WORDS) {
+                return NONE;
+            }
+            long behind = wordPlaces[word] >>> from;
+            return behind == 0L ? NONE : from + Long.numberOfTrailingZeros(behind);
+        }
+
         /** The nearest place for each word leaves the most of the slop for those behind it. */
-        private static boolean goesOn(Question question, Index index, int clause, int document, int first) {
+        private boolean goesOn(Question question, int clause, int first) {
             int place = first;
             int spent = 0;
             for (int i = question.fromOf(clause) + 1; i < question.endOf(clause); i++) {
                 int due = place + question.offsetAt(i) - question.offsetAt(i - 1);
-                place = index.placeFrom(document, due, question.wordAt(i));
+                place = nextPlace(i, due);
                 if (place == NONE) {
                     return false;
                 }
@@ -1644,7 +1700,7 @@ public final class Quillroom {
             return spent <= question.slopOf(clause);
         }
 
-        private long widenedHolders(Question question, Index index, int clause) {
+        private void findWidened(Question question, Index index, int clause) {
             long members = 0L;
             int found = 0;
             for (int rank = 0; rank < lexicon.size() && found < WIDENED_TO; rank++) {
@@ -1655,7 +1711,7 @@ public final class Quillroom {
                     found++;
                 }
             }
-            return members;
+            setHeldAsOne(clause, members);
         }
 
         private boolean isMeant(Question question, int clause, int stem) {
@@ -1667,98 +1723,58 @@ public final class Quillroom {
             return lexicon.distance(stem, question.text(), from, end) <= 1;
         }
 
-        private long rangeHolders(int least, int greatest) {
+        private void findRange(Question question, int clause) {
             long members = 0L;
             for (int document = 0; document < library.size(); document++) {
                 int value = library.value(document);
-                if (isIn(there, document) && value != NONE && value >= least && value <= greatest) {
+                boolean isWithin = value >= question.fromOf(clause) && value <= question.endOf(clause);
+                if (isIn(there, document) && value != NONE && isWithin) {
                     members = members | only(document);
                 }
             }
-            return members;
+            setHeldAsOne(clause, members);
         }
 
-        private long groupHolders(Question question, int group) {
+        private void setHeldAsOne(int clause, long members) {
+            setHeld(clause, members);
+            for (int document = 0; document < MOST_DOCUMENTS; document++) {
+                setWorth(clause, document, 1.0f);
+            }
+        }
+
+        private void findGroup(Question question, int group) {
             long due = there;
             long others = 0L;
             long barred = 0L;
             boolean isDue = false;
             for (int clause = group + 1; clause < question.size(); clause++) {
                 if (question.parentOf(clause) == group) {
-                    long members = heldAt(clause);
-                    switch (question.signOf(clause)) {
-                        case '+':
-                            due = due & members;
-                            isDue = true;
-                            break;
-                        case '-':
-                            barred = barred | members;
-                            break;
-                        default:
-                            others = others | members;
-                            break;
+                    char sign = question.signOf(clause);
+                    if (sign == '-') {
+                        barred = barred | heldAt(clause);
+                    } else if (sign == '+') {
+                        due = due & heldAt(clause);
+                        isDue = true;
+                    } else {
+                        others = others | heldAt(clause);
                     }
                 }
             }
-            return (isDue ? due : others) & ~barred;
+            setHeld(group, (isDue ? due : others) & ~barred);
+            sumUp(question, group);
         }
 
-        /** The score of a document in which the question that was found holds. */
-        float score(Question question, Index index, int document) {
-            for (int clause = question.size() - 1; clause >= 0; clause--) {
-                float score = 0.0f;
-                if (isIn(heldAt(clause), document)) {
-                    score = scoreOf(question, index, clause, document);
+        private void sumUp(Question question, int group) {
+            for (int document = 0; document < MOST_DOCUMENTS; document++) {
+                float sum = 0.0f;
+                for (int clause = group + 1; clause < question.size(); clause++) {
+                    boolean isPart = question.parentOf(clause) == group && question.signOf(clause) != '-';
+                    if (isPart && isIn(heldAt(clause), document)) {
+                        sum = sum + worthAt(clause, document);
+                    }
                 }
-                setWorth(clause, score);
+                setWorth(group, document, sum);
             }
-            return worthAt(ROOT);
-        }
-
-        private float scoreOf(Question question, Index index, int clause, int document) {
-            switch (question.kindOf(clause)) {
-                case GROUP:
-                    return groupScore(question, clause, document);
-                case PHRASE:
-                    return phraseScore(question, index, clause, document);
-                default:
-                    return 1.0f;
-            }
-        }
-
-        private float groupScore(Question question, int group, int document) {
-            float sum = 0.0f;
-            for (int clause = group + 1; clause < question.size(); clause++) {
-                boolean isPart = question.parentOf(clause) == group && question.signOf(clause) != '-';
-                if (isPart && isIn(heldAt(clause), document)) {
-                    sum = sum + worthAt(clause);
-                }
-            }
-            return sum;
-        }
-
-        private float phraseScore(Question question, Index index, int clause, int document) {
-            float weight = 0.0f;
-            for (int i = question.fromOf(clause); i < question.endOf(clause); i++) {
-                weight = weight + weightOf(index, question.wordAt(i));
-            }
-            float times = (float) timesIn(question, index, clause, document);
-            float length = (float) coarse(index.lengthOf(document));
-            if (!(mean > 0.0f)) {
-                return 0.0f;
-            }
-            float divisor = times + 1.2f * (0.25f + 0.75f * length / mean);
-            return divisor > 0.0f ? weight * (times * 2.2f / divisor) : 0.0f;
-        }
-
-        private float weightOf(Index index, int stem) {
-            int having = Long.bitCount(index.homesOf(stem) & there);
-            return 1.0f + (float) (many - having) / (float) (having + 1);
-        }
-
-        private static int coarse(int length) {
-            int highest = Integer.highestOneBit(length);
-            return length & (highest | highest >> 1 | highest >> 2);
         }
     }
 
@@ -1803,7 +1819,7 @@ public final class Quillroom {
             isThere = true;
             for (int document = 0; document < MOST_DOCUMENTS; document++) {
                 if (isIn(members, document)) {
-                    setScore(document, finder.score(question, index, document));
+                    setScore(document, finder.scoreOf(document));
                     insert(document, library);
                 }
             }
