@@ -1178,11 +1178,17 @@ public final class Quillroom {
             }
         }
 
+        private void setRow(int segment, long row) {
+            if (segment >= 0 && segment < rows.length) {
+                rows[segment] = row;
+            }
+        }
+
         private void dropMarked() {
             int kept = 0;
-            for (int i = 0; i < count && i < rows.length; i++) {
-                if (unmarkedOf(rows[i]) != 0L) {
-                    rows[kept] = rows[i];
+            for (int i = 0; i < count; i++) {
+                if (unmarkedOf(rowAt(i)) != 0L) {
+                    setRow(kept, rowAt(i));
                     kept++;
                 }
             }
@@ -1209,8 +1215,8 @@ public final class Quillroom {
             int taken = 0;
             int first = NONE;
             int kept = 0;
-            for (int i = 0; i < count && i < rows.length; i++) {
-                long row = rows[i];
+            for (int i = 0; i < count; i++) {
+                long row = rowAt(i);
                 boolean isTaken = taken < MERGED_AT_ONCE && tierOf(row) == tier;
                 if (isTaken) {
                     together = together | unmarkedOf(row);
@@ -1220,13 +1226,11 @@ public final class Quillroom {
                     first = kept;
                     kept++;
                 } else if (!isTaken) {
-                    rows[kept] = row;
+                    setRow(kept, row);
                     kept++;
                 }
             }
-            if (first >= 0 && first < rows.length) {
-                rows[first] = together;
-            }
+            setRow(first, together);
             count = kept;
             merged++;
         }
