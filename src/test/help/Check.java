@@ -116,7 +116,7 @@ abstract class Check {
         }
     }
 
-    /** The terms, then each promise, with one blank for each row of white space. */
+    /** All ahead of the promises, then each promise, with one blank for each row of white space. */
     private static String[] readSections() {
         String[] sections = new String[PROMISES + 1];
         String all;
@@ -127,8 +127,10 @@ abstract class Check {
         }
         for (String part : all.split("(?m)^## ")) {
             String plain = part.replaceAll("\\s+", " ").trim();
-            if (plain.startsWith("Terms ")) {
+            if (plain.startsWith("What it is ")) {
                 sections[TERMS] = plain;
+            } else if (plain.startsWith("Terms ")) {
+                sections[TERMS] += " " + plain;
             } else if (plain.startsWith("Promise ")) {
                 sections[Integer.parseInt(plain.substring(8, plain.indexOf(':')))] = plain;
             }

@@ -349,6 +349,9 @@ public final class PromiseBoundariesTest extends Check {
             due("the reader 0", x.documents(0), 1);
             due("the reader 2", x.documents(2), 1);
             due("the last commit", x.documents(-1), 2);
+            x.delete(0);
+            x.commit();
+            due("the reader 0 behind a deletion", x.documents(0), 1);
         });
         of(18, "Returns the number of documents.", () -> {
             Quillroom x = new Quillroom();
@@ -371,6 +374,10 @@ public final class PromiseBoundariesTest extends Check {
             dueFault("(", 1);
             dueFault(times("b", 79) + ")", 79);
             dueFault(times("(", 79) + "b", 80);
+            Quillroom x = typed("b 1");
+            due("fault", x.fault(), 2);
+            due("fault again", x.fault(), 2);
+            due("the text stays", x.erase(), 3);
         });
     }
 
@@ -856,6 +863,9 @@ public final class PromiseBoundariesTest extends Check {
             due("none is marked yet", x.markedShare(), 0.0f);
             x.commit();
             due("a third", x.markedShare(), (float) 1 / (float) 3);
+            x.add(0, -1);
+            due("without the one that waits", x.markedShare(), (float) 1 / (float) 3);
+            x.crash();
             x.delete(1);
             x.commit();
             due("two thirds", x.markedShare(), (float) 2 / (float) 3);
@@ -913,6 +923,18 @@ public final class PromiseBoundariesTest extends Check {
             dueSound("without documents", x);
             due("the answer stays", x.facet(0), 2);
             due("the text stays", x.erase(), 1);
+        });
+        of(37, "by looking at the texts of all documents anew", () -> {
+            Quillroom x = room("car", "auto car", "the");
+            text(x, "car auto").addAlias();
+            ask(x, "auto \"car auto\"~9");
+            dueSound("with an alias that no document has", x);
+            added(x, "car auto").commit();
+            dueSound("with an alias that came later", x);
+            ask(x, "auto car");
+            text(x, "auto bus").addAlias();
+            dueSound("with documents of both sorts", x);
+            due("passageStems", x.passageStems(0), 2);
         });
         of(37, "if there is one", () -> {
             Quillroom x = room("b");

@@ -6,6 +6,7 @@ public final class TermBoundariesTest extends Check {
     private static final String PARTING = "0123456789 \"*~+-[],()";
 
     public static void main(String[] args) {
+        calls();
         texts();
         stems();
         stops();
@@ -35,6 +36,24 @@ public final class TermBoundariesTest extends Check {
         sums();
         answers();
         end();
+    }
+
+    private static void calls() {
+        of(TERMS, "An object is used for at most 512 calls after it has been made", () -> {
+            Quillroom x = new Quillroom();
+            for (int i = 0; i < 60; i++) {
+                due("add", x.add(0, i), i);
+            }
+            due("the call 61", x.commit(), 1);
+            for (int i = 0; i < 222; i++) {
+                due("type", x.type('b'), 1);
+                due("erase", x.erase(), 1);
+            }
+            for (char sign : "[9,59]".toCharArray()) {
+                x.type(sign);
+            }
+            due("the call 512", x.ask(-1, 'd'), 51);
+        });
     }
 
     private static void texts() {
@@ -85,6 +104,7 @@ public final class TermBoundariesTest extends Check {
             dueStem("ing", "ing");
             dueStem("ringing", "ring");
             dueStem("inging", "ing");
+            dueStem("exceeding", "exceed");
             dueStem("ingots", "ingot");
             dueStem(times("b", 77) + "ing", times("b", 77));
         });
@@ -104,7 +124,7 @@ public final class TermBoundariesTest extends Check {
             dueStem("s", "s");
             dueStem("pass", "pas");
             dueStem("endings", "ending");
-            dueStem("seeds", "seed");
+            dueStem("breeds", "breed");
             dueStem("passed", "pass");
         });
         of(TERMS, "otherwise the word", () -> {
@@ -217,6 +237,7 @@ public final class TermBoundariesTest extends Check {
             dueHits(x, "cart", "2 ");
             dueHits(x, "car", "0 ");
             dueHits(x, "\"car auto\"~9", "");
+            due("frequency of an alias of an alias", text(x, "cart").frequency(-1), 1);
             due("lengths", x.lengths(), 4);
             due("stems", x.stems(), 5);
         });
@@ -255,6 +276,14 @@ public final class TermBoundariesTest extends Check {
             due("merges", x.merges(), 1);
             dueHits(x, "auto", "1 2 ");
             dueHits(x, "wagon", "2 ");
+            Quillroom y = room("car auto");
+            text(y, "car auto").addAlias();
+            dueScore(y, "auto", 0, score(1.0f, 1, 2, 2.0f));
+            dueHits(y, "\"auto auto\"", "");
+            due("merges of none", added(y, "car auto").commit(), 2);
+            dueScore(y, "auto", 0, score(1.0f, 2, 2, 2.0f));
+            due("the hit", y.hit(0), 1);
+            dueHits(y, "\"auto auto\"", "1 ");
         });
     }
 
@@ -435,6 +464,9 @@ public final class TermBoundariesTest extends Check {
             x.delete(2);
             due("crash", x.crash(), 3);
             due("waiting", x.waiting(), 0);
+            dueThrow("delete what was taken away", NoSuchElementException.class, x, y -> y.delete(2));
+            due("delete of which the deletion was taken away", x.delete(0), 1);
+            due("crash", x.crash(), 1);
             x.commit();
             dueHits(x, "b", "0 ");
             x.delete(1);
@@ -473,8 +505,8 @@ public final class TermBoundariesTest extends Check {
             added(x, "b", "b c");
             x.openReader();
             x.commit();
-            x.openReader();
             x.delete(0);
+            x.openReader();
             added(x, "b").commit();
             text(x, "b");
             due("opened on nothing", ranked(x, x.ask(0, 's')), "");
@@ -766,6 +798,11 @@ public final class TermBoundariesTest extends Check {
             dueHits(x, "[999,999]", "3 ");
             dueHits(x, "[0,999]", "0 2 3 ");
             dueHits(x, "[005,05]", "0 ");
+            x.add(0, 5);
+            x.delete(0);
+            dueHits(x, "[5,5]", "0 ");
+            x.commit();
+            dueHits(x, "[5,5]", "4 ");
         });
     }
 
